@@ -23,8 +23,7 @@ public final class TriggerScopes {
     private static final int KINDS = 6;
     private static final int ALONE = 0, BEHIND = 1, UNLESS = 2;
 
-    private final Row text = new Row(MOST_LETTERS);
-    private final Reader reader = new Reader(text);
+    private final Text text = new Text();
     private final Row samples = new Row(MOST_SAMPLES);
     private final Finder finder = new Finder();
     private final Row seenPlaces = new Row(MOST_SEEN);
@@ -43,26 +42,26 @@ public final class TriggerScopes {
         if (!isWithin(letter, 0, MOST_LETTER)) {
             return BAD;
         }
-        if (text.size() >= MOST_LETTERS) {
+        if (text.letters.size() >= MOST_LETTERS) {
             return FULL;
         }
-        text.add(letter);
-        return text.size();
+        text.letters.add(letter);
+        return text.letters.size();
     }
 
     public int clear() {
-        int letters = text.size();
-        text.empty();
+        int letters = text.letters.size();
+        text.letters.empty();
         return letters;
     }
 
     public int signal() {
-        int fault = reader.readSignal();
-        if (fault != Reader.NO_FAULT) {
+        int fault = text.readSignal();
+        if (fault != Text.NO_FAULT) {
             return FAULT_BASE - fault;
         }
-        samples.copy(reader.read);
-        text.empty();
+        samples.copy(text.read);
+        text.letters.empty();
         return samples.size();
     }
 
@@ -296,7 +295,7 @@ public final class TriggerScopes {
             case 6:
                 return seenPlaces.size();
             case 7:
-                return text.size();
+                return text.letters.size();
             case 8:
                 return earlier.size();
             default:
@@ -434,8 +433,8 @@ public final class TriggerScopes {
         }
     }
 
-    /** Reads THE TEXT, TOKEN by TOKEN. */
-    private static final class Reader {
+    /** THE TEXT, and its reading TOKEN by TOKEN. */
+    private static final class Text {
         static final int NO_FAULT = -1;
 
         // Letters are 0 .. 255, so these two TOKENS are none of them.
@@ -445,7 +444,7 @@ public final class TriggerScopes {
         // Above all that a NUMBER may be; rows of figures stay there, so that none wraps around.
         private static final int TOO_GREAT = 1000;
 
-        private final Row text;
+        private final Row letters = new Row(MOST_LETTERS);
         // Apart from THE SIGNAL, so that a text with a FAULT leaves that as it was.
         private final Row read = new Row(MOST_SAMPLES);
         private int next = 0;
@@ -453,8 +452,7 @@ public final class TriggerScopes {
         private int tokenPlace = 0;
         private int number = 0;
 
-        Reader(Row letters) {
-            text = letters;
+        Text() {
         }
 
         /** Answers the FAULT's place. */
@@ -539,28 +537,28 @@ public final class TriggerScopes {
         }
 
         private void goOn() {
-            while (next < text.size() && text.at(next) == ' ') {
+            while (next < letters.size() && letters.at(next) == ' ') {
                 next++;
             }
             tokenPlace = next;
-            if (next >= text.size()) {
+            if (next >= letters.size()) {
                 token = END;
-            } else if (isFigure(text.at(next))) {
+            } else if (isFigure(letters.at(next))) {
                 token = NUMBER;
                 readNumber();
             } else {
-                token = text.at(next);
+                token = letters.at(next);
                 next++;
             }
         }
 
         private void readNumber() {
             number = 0;
-            while (next < text.size() && isFigure(text.at(next))) {
-                number = Math.min(number * 10 + text.at(next) - '0', TOO_GREAT);
+            while (next < letters.size() && isFigure(letters.at(next))) {
+                number = Math.min(number * 10 + letters.at(next) - '0', TOO_GREAT);
                 next++;
             }
-            if (text.at(tokenPlace) == '0' && next - tokenPlace > 1) {
+            if (letters.at(tokenPlace) == '0' && next - tokenPlace > 1) {
                 number = BADLY_WRITTEN;
             }
         }
