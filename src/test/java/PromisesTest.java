@@ -419,6 +419,10 @@ public final class PromisesTest {
         answers("behind, span 18", triggersOf(x), 5, 12, 30);
         x.modes(1, 300);
         answers("behind, span 300", triggersOf(x), 5, 12, 30);
+        x.condition(0, 4, 100, 100, 0);
+        answers("behind, B ahead of the first A", triggersOf(x), 30);
+        x.condition(0, 4, 7, 7, 0);
+        answers("behind, A never", triggersOf(x));
     }
 
     private static void triggerUnless() {
@@ -480,6 +484,7 @@ public final class PromisesTest {
         due("ends ahead of its trigger", x.record(1, 1), 211);
         x.records(0, 1);
         due("the trigger alone", x.record(1, 0), 200);
+        due("as many as triggers", x.record(-1, 0), 2);
     }
 
     /** Records of two places: 0 and each of 200, 201, 203, 209. */
@@ -550,11 +555,18 @@ public final class PromisesTest {
         for (int what = 3; what <= 6; what++) {
             due("none of one rise", x.measure(1, 2, what), NONE);
         }
+        due("two rises", x.measure(6, 9, 2), 2);
+        due("period of two rises", x.measure(6, 9, 3), 2);
+        due("duty of two rises", x.measure(6, 9, 6), 2);
         due("a above b", x.measure(2, 1, 0), BAD);
         due("a below", x.measure(-1, 1, 0), BAD);
         due("b above", x.measure(0, 11, 0), BAD);
         due("what below", x.measure(0, 10, -1), BAD);
         due("what above", x.measure(0, 10, 7), BAD);
+        x = Checks.scope(Checks.levels(0, 5, 6, 5, 10, 4, 5));
+        due("behind a sample of MIDDLE there is no rise", x.measure(0, 6, 2), 2);
+        x = Checks.scope(Checks.levels(0, 9, 3, 4, 0));
+        due("MIDDLE is cut", x.measure(0, 4, 2), 2);
         x = Checks.scope("l0 2;l9 2;x9;");
         due("period in least terms", x.measure(0, 39, 3), 4);
         due("by 1", x.measure(0, 39, 4), 1);
@@ -574,6 +586,9 @@ public final class PromisesTest {
         due("triggers as they were", x.trigger(-1), 10);
         due("below", x.alias(1), BAD);
         due("above", x.alias(17), BAD);
+        x = Checks.scope("l200 4;");
+        x.condition(0, 1, 128, 120, 0);
+        due("no sample comes behind the last", x.alias(2), 0);
         x = twoConditions();
         // Every other SAMPLE: A fires at 1, 6, B at 6, 15.
         x.modes(1, 4);
