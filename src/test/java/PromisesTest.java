@@ -46,50 +46,25 @@ public final class PromisesTest {
     }
 
     private static void answers(String what, int[] got, int... want) {
-        due(what + ": how many", got.length, want.length);
-        for (int i = 0; i < Math.min(got.length, want.length); i++) {
-            due(what + " " + i, got[i], want[i]);
-        }
+        CHECKS.answers(what, got, want);
     }
 
     private static int[] samplesOf(TriggerScopes x) {
-        int[] samples = new int[x.count(0)];
-        for (int k = 0; k < samples.length; k++) {
-            samples[k] = x.sample(k);
-        }
-        return samples;
+        return Checks.samplesOf(x);
     }
 
     private static int[] triggersOf(TriggerScopes x) {
-        int[] triggers = new int[x.trigger(-1)];
-        for (int k = 0; k < triggers.length; k++) {
-            triggers[k] = x.trigger(k);
-        }
+        int[] triggers = Checks.triggersOf(x);
         due("a trigger more", x.trigger(triggers.length), NONE);
         return triggers;
     }
 
     private static int[] firesOf(int kind, int p, int q, int w, String text) {
-        TriggerScopes x = Checks.scope(text);
-        x.condition(1, kind, p, q, w);
-        int[] found = new int[300];
-        int many = 0;
-        while (many < 300 && x.fires(1, many) != NONE) {
-            found[many] = x.fires(1, many);
-            many++;
-        }
-        return java.util.Arrays.copyOf(found, many);
+        return Checks.firesOf(kind, p, q, w, text);
     }
 
     private static void setupIs(String when, TriggerScopes x, int... want) {
-        int[] got = new int[13];
-        for (int i = 0; i < 8; i++) {
-            got[i] = x.told(i / 4, i % 4);
-        }
-        for (int i = 0; i < 5; i++) {
-            got[8 + i] = x.count(1 + i);
-        }
-        answers(when, got, want);
+        answers(when, Checks.setupOf(x), want);
     }
 
     private static void firstSetupIs(String when, TriggerScopes x) {
